@@ -111,6 +111,9 @@ public final class AheadTest {
             + "news a size 1;");
         CHECK.due("of sets as few the least number", y.leastSet(1), 3);
         CHECK.due("two", y.least(1), 2);
+        y.hear(0, 89);
+        CHECK.due("one is fewer, though its number is more", y.leastSet(1), 32);
+        CHECK.due("one", y.least(1), 1);
         MossSeats z = CHECK.with("matter a pace 1; matter b pace 1; hold a by b; sitter s mile 0 tall 99 for a; news b size 100; news a size 60; news a size 40;");
         CHECK.due("STUCK or not", z.leastSet(1), 6);
     }
@@ -144,6 +147,10 @@ public final class AheadTest {
         CHECK.due("nothing", x.loosen(), 0);
         CHECK.due("nothing, the set", x.loosenSet(), 0);
         CHECK.due("nothing, STATUS", x.status(), 0);
+        MossSeats tree = CHECK.with("matter a pace 1; matter b pace 1; matter c pace 1; hold a by b; hold b by c; hold a by c;");
+        CHECK.due("HOLDS without a RING", tree.loosen(), 0);
+        CHECK.due("HOLDS without a RING, the set", tree.loosenSet(), 0);
+        CHECK.due("HOLDS without a RING, STATUS", tree.status(), 0);
         MossSeats y = CHECK.with("matter a pace 1; matter b pace 1; matter c pace 1; matter d pace 1; hold a by d; hold a by b; hold b by c; hold c by a;");
         CHECK.due("one RING", y.loosen(), 1);
         CHECK.due("the least number", y.loosenSet(), 2);
@@ -260,6 +267,8 @@ public final class AheadTest {
         CHECK.refused(what + ": n below 0 by far", x, 5, () -> by.call(2, Integer.MIN_VALUE));
         x.tray(2, 3, 60);
         CHECK.refused(what + ": n above 20", x, 5, () -> by.call(2, 21));
+        by.call(2, 20);
+        CHECK.due(what + ": 20 twos can be", x.status() != 5, true);
         x.write(2, 38, 41);
         CHECK.refused(what + ": DAYS 41 in the 20th two", x, 5, () -> by.call(2, 20));
         x.write(2, 38, 40);
@@ -314,6 +323,9 @@ public final class AheadTest {
         MossSeats held = CHECK.with("matter p pace 1; matter q pace 0; matter r pace 1 clear 61; hold p by r; sitter t mile 0 tall 99 for p;");
         CHECK.tray(held, 0, 0, 99);
         CHECK.due("parted on the 40th DAY", held.ask(0, 0, 1), 40);
+        MossSeats six = CHECK.with("matter p pace 0; matter q pace 0; matter r pace 0; matter u pace 0; matter v pace 0; matter w pace 10; sitter t mile 0 tall 4 for p;");
+        six.tray(0, 3, 0);
+        CHECK.due("six are alike now, five in 1", six.ask(0, 0, 0), 1);
         held.crisis(2, 1);
         CHECK.due("parted on the 41st DAY is too late", held.ask(0, 0, 1), 0);
     }

@@ -191,6 +191,9 @@ public final class DeedsTest {
         CHECK.due("none left", x.loose(0), 0);
         CHECK.refused("none to loose", x, 2, () -> x.loose(0));
         CHECK.due("it may be bound again", x.bind(0, 1), 0);
+        x.bind(2, 3);
+        x.loose(1);
+        CHECK.due("the last one may be bound again", x.bind(2, 3), 1);
     }
 
     private static void promise27Hurry() {

@@ -100,7 +100,9 @@ public final class GuessTest {
         CHECK.due("one turn", x.moveOf(0, 1, 1), 0);
         CHECK.due("moveOf STATUS", x.status(), 0);
         CHECK.due("the other way round", x.moveOf(1, 0, 1), 1);
+        CHECK.due("two turns", x.moveOf(0, 1, 2), 0);
         CHECK.due("three turns", x.moveOf(0, 1, 3), 0);
+        CHECK.due("four turns", x.moveOf(0, 1, 4), 0);
         CHECK.due("nothing changes by it", x.many(9), 0);
         x.bring(0);
         CHECK.due("what CAME is no move", x.moveOf(0, 1, 1), 2);
@@ -114,6 +116,15 @@ public final class GuessTest {
         CHECK.due("none comes last, two turns", even.moveOf(0, 1, 2), 3);
         even.bring(3);
         CHECK.refused("no NEWS is left", even, 8, () -> even.moveOf(0, 1, 1));
+        MossSeats twice = CHECK.with("matter p pace 1; matter q pace 1; sitter s mile 0 tall 50 for p; sitter t mile 0 tall 90 for q;"
+            + "news p size 60; news p size 60; news p size 100; news q size 5;");
+        CHECK.due("a turn alone", twice.moveOf(0, 1, 1), 2);
+        CHECK.due("the second turn is the other one's", twice.moveOf(0, 1, 2), 2);
+        CHECK.due("with a third turn two will do", twice.moveOf(0, 1, 3), 0);
+        MossSeats settled = CHECK.with("matter p pace 1 clear 100; matter q pace 1; sitter s mile 0 tall 50 for q; sitter t mile 0 tall 90 for q;"
+            + "news p size 60; news q size 1;");
+        // 40 by all of them, as 49.5 is 49 and 89.1 is 89
+        CHECK.due("NEWS of a SETTLED one is no move", settled.moveOf(0, 1, 1), 1);
         MossSeats worse = CHECK.with("matter p pace 1; sitter s mile 0 tall 20 for p; sitter t mile 0 tall 90 for p; news p size 10;");
         CHECK.refused("none is better", worse, 8, () -> worse.moveOf(0, 1, 1));
         CHECK.due("the other one has a move", worse.moveOf(1, 0, 1), 0);

@@ -34,6 +34,7 @@ public final class ModelTest {
     public static void main(String[] args) {
         int first = args.length > 0 ? Integer.parseInt(args[0]) : 0;
         int runs = args.length > 1 ? Integer.parseInt(args[1]) : RUNS;
+        new ModelTest(0).askAFullWood();
         for (int i = first; i < first + runs && wrong == 0; i++) {
             new ModelTest(i).play(i);
         }
@@ -69,10 +70,54 @@ public final class ModelTest {
                 one(random.nextInt(52));
             }
         }
+        tellIfWrong("run " + run);
+    }
+
+    private void tellIfWrong(String run) {
         if (wrong != 0) {
-            System.out.println("run " + run + ":");
+            System.out.println(run + ":");
             told.forEach(call -> System.out.println("  " + call));
         }
+    }
+
+    /** With as many things of each kind as there may be, where an index too many would be one beyond a row. */
+    private void askAFullWood() {
+        String matters = "matter a pace 3;matter b pace 4 clear 9;matter c pace 7;matter d pace 9 clear 80;matter e pace 1 clear 70;matter f pace 20;";
+        String holds = "hold a by b;hold b by c;hold c by d;hold a by c;hold a by d;hold e by f;hold e by d;hold f by d;hold b by d;hold f by c;";
+        String sitters = "sitter s mile 3 tall 50 for a;sitter t mile 50 tall 99 for b;sitter u mile 9 tall 9 for c weight 3;sitter v mile 20 tall 60 for d;"
+            + "sitter w mile 21 tall 33 for e;sitter x mile 40 tall 80 for f;sitter y mile 41 tall 70 for a weight 9;";
+        String news = "news a size 60;news a size 40;news b size 91;news c size 50;news c size 50;news d size 20;news e size 30;news f size 100;";
+        String text = matters + holds + sitters + news;
+        feed(text);
+        same("wood: " + text, real.wood(text.length()), plain.wood(text.length()));
+        same("many(3)", real.many(3), 8);
+        String years = "any;bring 7;when down y;crisis f 9;end;turn y f;day 3;any;";
+        feed(years);
+        same("years: " + years, real.years(years.length()), plain.years(years.length()));
+        same("tray", real.tray(0, 3, 60), plain.tray(0, 3, 60));
+        for (int round = 0; round < 3 && wrong == 0; round++) {
+            lookAtAll();
+            same("mean(3, 5)", real.mean(3, 5), plain.mean(3, 5));
+            for (int s = 0; s < 7; s++) {
+                same("ask(" + s + ", 0, 0)", real.ask(s, 0, 0), plain.ask(s, 0, 0));
+                same("downIn(" + s + ")", real.downIn(s), plain.downIn(s));
+                same("share(" + s + ")", real.share(s), plain.share(s));
+                same("game(" + s + ", 6, 2)", real.game(s, 6, 2), plain.game(s, 6, 2));
+                same("moveOf(6, " + s + ", 3)", real.moveOf(6, s, 3), plain.moveOf(6, s, 3));
+            }
+            same("copyHeights(0)", real.copyHeights(0), plain.copyHeights(0));
+            same("leastSet(127)", real.leastSet(127), plain.leastSet(127));
+            same("ring()", real.ring(), plain.ring());
+            same("loosenSet()", real.loosenSet(), plain.loosenSet());
+            same("waiting()", real.waiting(), plain.waiting());
+            same("orderAt(5)", real.orderAt(5), plain.orderAt(5));
+            same("round(30)", real.round(30), plain.round(30));
+            same("clearIn(0, 200)", real.clearIn(0, 200), plain.clearIn(0, 200));
+            same("live(" + round + ")", real.live(round), plain.live(round));
+            same("loose(8)", real.loose(8), plain.loose(8));
+            same("bind(3, 0)", real.bind(3, 0), plain.bind(3, 0));
+        }
+        tellIfWrong("a full wood");
     }
 
     private void same(String call, long got, long due) {

@@ -8,6 +8,7 @@ public final class TextsTest {
         promise10WoodFaults();
         promise10WoodBounds();
         promise10WoodFull();
+        promise10NothingLingers();
         promise11Years();
         promise11YearsFaults();
         promise12Fault();
@@ -210,6 +211,33 @@ public final class TextsTest {
         CHECK.due("a fault at the end of 900 bytes", Check.wood(CHECK.with(""), long900 + "!"), -1);
     }
 
+    /** What an older wood had, its next thing of each kind above all, is gone with it. */
+    private static void promise10NothingLingers() {
+        String few = "odds 8; matter inn pace 10 clear 20; matter law pace 0 clear 60; matter tax pace 15; hold inn by law;"
+            + "sitter gil mile 5 tall 50 for inn; sitter ida mile 20 tall 9 for law weight 3; news tax size 1;";
+        MossSeats x = CHECK.with(Check.WOOD);
+        Check.years(x, "day 5; bring 0; bring 2;");
+        x.mean(0, 1);
+        CHECK.due("a smaller WOOD", Check.wood(x, few), 2);
+        long[] due = {3, 1, 2, 1, 8, 0, 0, 1, 0, 0};
+        for (int what = 0; what <= 9; what++) {
+            CHECK.due("of the smaller one many(" + what + ")", x.many(what), due[what]);
+        }
+        CHECK.due("a MATTER of old", Check.years(x, "crisis tea 1;"), -1);
+        CHECK.due("a MATTER of old, FAULT", x.fault(0), 3);
+        CHECK.due("a SITTER of old", Check.years(x, "when down joe; end;"), -1);
+        CHECK.due("a SITTER of old, FAULT", x.fault(0), 3);
+        CHECK.fraction("HEIGHTS of old", x, x.share(0), 40, 43);
+        CHECK.due("SITTERS of old", x.matter(2, 3), 0);
+        CHECK.due("HOLDS of old", x.matter(2, 2), 0);
+        CHECK.due("NEWS of old", x.game(1, 0, 4), 37);
+        CHECK.due("those who wait of old", x.round(5), 15);
+        CHECK.due("a HOLD of old, anew", x.bind(2, 1), 1);
+        x.loose(1);
+        CHECK.due("the same HOLD anew", x.bind(2, 1), 1);
+        CHECK.due("the old NAMES are free", Check.wood(x, "matter gil pace 1; matter kit pace 1; sitter inn mile 0 tall 1 for kit;"), 1);
+    }
+
     private static void promise11Years() {
         MossSeats x = CHECK.with(Check.WOOD);
         CHECK.due("years()", Check.years(x, "any; when down gil; loop 2; stop; end; end; day 40;"), 5);
@@ -227,6 +255,10 @@ public final class TextsTest {
         CHECK.due("the old ones stay", x.live(0), 1);
         CHECK.refused("with 10 the tape is empty", x, 5, () -> x.wood(1));
         CHECK.due("30 STEPS", Check.years(x, "any;".repeat(29) + "loop 1;end;"), 30);
+        Check.years(x, "loop 1; loop 1; go");
+        CHECK.due("what a FAULT left open is open no more", Check.years(x, "end;"), -1);
+        CHECK.due("FAULT of the end", x.fault(1), 0);
+        CHECK.due("three deep behind it", Check.years(x, "loop 1; loop 1; loop 1; end; end; end;"), 3);
         x.sit(1, 1, 0);
         CHECK.due("who sat down later has no NAME", Check.years(x, "when down a; end;"), -1);
         CHECK.due("that FAULT", x.fault(0), 3);
@@ -261,6 +293,13 @@ public final class TextsTest {
         yearsFault("crisis abcdefghi 1;", 2, 7);
         yearsFault("turn gil;", 2, 8);
         yearsFault("when gil;", 2, 5);
+        yearsFault("when down;", 2, 9);
+        yearsFault("when down; end;", 2, 9);
+        yearsFault("when settled; end;", 2, 12);
+        yearsFault("when high < 3; end;", 2, 10);
+        yearsFault("turn law;", 3, 5);
+        yearsFault("turn; any;", 2, 4);
+        yearsFault("crisis; any;", 2, 6);
         yearsFault("when high gil 1;", 2, 14);
         yearsFault("when high gil ; 1;", 2, 14);
         yearsFault("when high gil < ;", 2, 16);
@@ -351,6 +390,13 @@ public final class TextsTest {
         x.crisis(2, 1);
         CHECK.due("STUCK by what is not SETTLED", x.many(7), 5);
         CHECK.due("3 times 1 by 100 is DOWN", x.many(8), 12);
+        MossSeats y = CHECK.with("matter a pace 1 clear 100; matter b pace 1 clear 99; hold a by b; hold b by a;");
+        CHECK.due("the first MATTER is SETTLED", y.many(6), 1);
+        CHECK.due("STUCK by no SETTLED one, nor a SETTLED one", y.many(7), 0);
+        y.crisis(0, 1);
+        CHECK.due("each is STUCK by the other one", y.many(7), 3);
+        y.day(9);
+        CHECK.due("and stays so", y.matter(0, 0) + y.matter(1, 0), 198);
     }
 
     private static void promise14Matter() {
@@ -370,7 +416,13 @@ public final class TextsTest {
         CHECK.due("LOAD, rounded up", x.matter(2, 4), 7);
         CHECK.due("LOAD of a SETTLED one", x.matter(3, 4), 0);
         CHECK.refused("LOAD that never is", x, 8, () -> x.matter(1, 4));
+        x.crisis(1, 1);
+        x.hurry(1, 20);
+        CHECK.due("LOAD of 41 by 20", x.matter(1, 4), 3);
+        x.hurry(1, 1);
+        CHECK.due("LOAD of 41 by 1", x.matter(1, 4), 41);
         x.hurry(3, 0);
+        x.hurry(1, 0);
         CHECK.due("LOAD of a SETTLED one without a PACE", x.matter(3, 4), 0);
         CHECK.refused("matter(4, 9)", x, 2, () -> x.matter(4, 9));
         CHECK.refused("matter(-1, 0)", x, 2, () -> x.matter(-1, 0));

@@ -57,6 +57,9 @@ public final class TraysTest {
         CHECK.due("a feed() too many has none either", x.status(), 5);
         x.many(0);
         CHECK.due("status() behind a good call", x.status(), 0);
+        x.many(99);
+        x.rule(4);
+        CHECK.due("status() behind a good call that answers true", x.status(), 0);
         x.hold(0, 9);
         CHECK.due("the first STATUS that holds", x.status(), 2);
     }

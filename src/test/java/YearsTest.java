@@ -51,6 +51,9 @@ public final class YearsTest {
     private static void promise50Missed() {
         lives("NEWS that CAME, that there is not, of a SETTLED one", with("bring 3; bring 3; bring 7; bring 0; bring 1; bring 1;"), 0, 6, 3, 0, 3, 0, 0);
         lives("what is CLEAR by 0", with("crisis tax 1; crisis inn 20; crisis inn 1;"), 0, 3, 2, 0, 0, 1, 0);
+        MossSeats one = CHECK.with("matter a pace 0 clear 1;");
+        Check.years(one, "crisis a 1; crisis a 1;");
+        lives("what is CLEAR by 1 can be", one, 0, 2, 1, 0, 0, 1, 0);
         MossSeats turned = with("turn gil inn; turn gil law; turn gil law; turn gil inn;");
         lives("what he sits FOR", turned, 0, 4, 2, 0, 0, 0, 0);
         CHECK.due("he turned twice", turned.sitter(0, 2), 0);
@@ -73,6 +76,9 @@ public final class YearsTest {
     private static void promise50Whens() {
         lives("down", with("when down kit; day 1; end; when down gil; day 2; end;"), 0, 3, 0, 1, 0, 0, 0);
         lives("settled", with("when settled tea; day 1; end; when settled tax; day 2; end;"), 0, 3, 0, 1, 0, 0, 0);
+        MossSeats other = CHECK.with("matter a pace 0 clear 100; matter b pace 0; matter c pace 0 clear 99; sitter s mile 0 tall 9 for b; sitter t mile 0 tall 1 for a;");
+        Check.years(other, "when settled a; day 1; end; when settled b; day 2; end; when settled c; day 4; end; when down s; day 8; end; when down t; day 16; end;");
+        lives("settled and down are told apart", other, 0, 7, 0, 17, 0, 0, 0);
         lives("high >", with("when high gil > 39; day 1; end; when high gil > 40; day 2; end;"), 0, 3, 0, 1, 0, 0, 0);
         lives("high <", with("when high gil < 41; day 1; end; when high gil < 40; day 2; end;"), 0, 3, 0, 1, 0, 0, 0);
         lives("high =", with("when high gil = 40; day 1; end; when high gil = 41; day 2; end; when high gil = 39; day 4; end;"), 0, 4, 0, 1, 0, 0, 0);
@@ -89,6 +95,7 @@ public final class YearsTest {
         lives("three deep", with("loop 2; loop 2; loop 2; day 1; end; end; end; day 1;"), 0, 1 + 2 * (1 + 2 * (1 + 2)) + 1, 0, 9, 0, 0, 0);
         lives("one behind the other", with("loop 2; day 1; end; loop 3; day 1; end;"), 0, 7, 0, 5, 0, 0, 0);
         lives("empty ones", with("loop 99; end; loop 99; loop 99; end; end;"), 0, 1 + 1 + 99, 0, 0, 0, 0, 0);
+        lives("many ends", with("loop 2;end;".repeat(26) + "day 1;"), 0, 27, 0, 1, 0, 0, 0);
         lives("a when in a loop", with("loop 9; when high joe > 40; day 1; end; end;"), 0, 1 + 9 + 4, 0, 4, 0, 0, 0);
     }
 
@@ -185,6 +192,13 @@ public final class YearsTest {
         lives("in the midst of a loop", with("loop 10; loop 40; day 1; end; end;"), 0, 300, 0, 291, 0, 0, 1);
         lives("one STEP short", with("loop 2; loop 99; day 1; end; loop 48; day 1; end; end;"), 0, 299, 0, 294, 0, 0, 0);
         lives("a when left", with("loop 99; day 1; end; loop 99; day 1; end; loop 99; day 1; end; when down gil; end;"), 0, 300, 0, 297, 0, 0, 1);
+        MossSeats again = with("loop 99; loop 99; any; end; end;");
+        lives("cut", again, 7, 300);
+        CHECK.due("cut: lived(4)", again.lived(4), 1);
+        Check.years(again, "when down kit; end; crisis tea 1;");
+        again.hear(3, 100);
+        again.bring(4);
+        lives("cut no more, and no loop goes on", again, 7, 2, 0, 0, 0, 1, 0);
         lives("the 300th an empty loop", with("loop 99; day 1; end; loop 99; day 1; end; loop 98; day 1; end; loop 9; end;"), 0, 300, 0, 296, 0, 0, 0);
     }
 
