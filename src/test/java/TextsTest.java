@@ -58,6 +58,10 @@ public final class TextsTest {
         CHECK.due("the first n bytes", x.wood(7), 0);
         CHECK.due("ODDS", x.many(4), 1);
         CHECK.refused("the bytes behind n are gone, too", x, 5, () -> x.wood(1));
+        cutOff("odds 17;", 6, 2, 6);
+        cutOff("odds 12345;", 9, 2, 9);
+        cutOff("matter abcdefghi pace 1;", 15, 2, 15);
+        cutOff("odds 3; ?", 8, 0, -1);
 
         MossSeats y = CHECK.with(Check.WOOD);
         Check.years(y, "day 1;");
@@ -74,6 +78,15 @@ public final class TextsTest {
         CHECK.due("ODDS are 4 again", y.many(4), 4);
         CHECK.due("no HOLDS are left", y.many(1), 0);
         CHECK.refused("there are no YEARS", y, 8, () -> y.live(0));
+    }
+
+    /** A WOOD of the first n bytes alone; a TOKEN that goes on behind them ends with them. */
+    private static void cutOff(String text, int n, int fault, int place) {
+        MossSeats x = new MossSeats();
+        Check.feed(x, text);
+        x.wood(n);
+        CHECK.due("FAULT of the first " + n + " of: " + text, x.fault(0), fault);
+        CHECK.due("its place of the first " + n + " of: " + text, x.fault(1), place);
     }
 
     /** Tells a text that has a FAULT, so that the fault stands there before a refused call is compared. */
