@@ -59,7 +59,7 @@ public final class TextsTest {
         CHECK.due("ODDS", x.many(4), 1);
         CHECK.refused("the bytes behind n are gone, too", x, 5, () -> x.wood(1));
         cutOff("odds 17;", 6, 2, 6);
-        cutOff("odds 12345;", 9, 2, 9);
+        cutOff("odds 12345;", 9, 4, 5);
         cutOff("matter abcdefghi pace 1;", 15, 2, 15);
         cutOff("odds 3; ?", 8, 0, -1);
 
