@@ -1,6 +1,7 @@
 import java.nio.charset.StandardCharsets;
 import java.util.Arrays;
 import java.util.function.BooleanSupplier;
+import java.util.function.IntConsumer;
 import java.util.function.IntSupplier;
 
 /** What the tests share: comparing answers, feeding texts, refused calls. */
@@ -12,24 +13,89 @@ final class Check {
         + "sitter joe mile 20 tall 80 for tax weight 2; sitter kit mile 40 tall 3 for tea;"
         + "news law size 30; news law size 15; news inn size 79; news tax size 100;";
 
+    /** Numbers far beyond all bounds. */
+    static final int[] FAR = {Integer.MIN_VALUE, Integer.MIN_VALUE + 1, -65536, -256, 256, 65536, Integer.MAX_VALUE - 1, Integer.MAX_VALUE};
+
+    private static final int MOST_TOLD = 60;
+    private static final int MOST_SECONDS = 300;
+
     private final String test;
+    private String about = "";
+    private int sentences = 0;
     private int wrong = 0;
     private int asked = 0;
 
     Check(String test) {
         this.test = test;
+        Thread clock = new Thread(() -> endIfItHangs(test));
+        clock.setDaemon(true);
+        clock.start();
+    }
+
+    /** A broken class may go on without an end; its test fails all the same. */
+    private static void endIfItHangs(String test) {
+        try {
+            Thread.sleep(1000L * MOST_SECONDS);
+        } catch (InterruptedException woken) {
+            return;
+        }
+        System.out.println(test + ": not through in " + MOST_SECONDS + " seconds");
+        Runtime.getRuntime().halt(1);
+    }
+
+    /** The first few alone are told. */
+    private void tell(String what) {
+        wrong++;
+        if (wrong <= MOST_TOLD) {
+            System.out.println(test + ": " + about + what);
+        }
     }
 
     void due(String what, long got, long due) {
         asked++;
         if (got != due) {
-            wrong++;
-            System.out.println(test + ": " + what + " answered " + got + ", due is " + due);
+            tell(what + " answered " + got + ", due is " + due);
         }
     }
 
     void due(String what, boolean got, boolean due) {
         due(what, got ? 1 : 0, due ? 1 : 0);
+    }
+
+    /** The test of one sentence of the document, by its words. What is thrown in it ends it alone. */
+    void sentence(String words, Runnable asks) {
+        sentences++;
+        about = "[" + words + "] ";
+        int before = asked;
+        try {
+            asks.run();
+        } catch (RuntimeException thrown) {
+            tell("threw " + thrown);
+        }
+        due("asked nothing", asked == before, false);
+        about = "";
+    }
+
+    /** A call that is not refused. */
+    void good(String what, MossSeats x, long got, long due) {
+        due(what, got, due);
+        due(what + ", STATUS", x.status(), 0);
+    }
+
+    void good(String what, MossSeats x, boolean got) {
+        due(what, got, true);
+        due(what + ", STATUS", x.status(), 0);
+    }
+
+    /** Numbers outside of 0 to so many less one: those next to them, and those far off. */
+    void outside(int many, IntConsumer asks) {
+        asks.accept(-1);
+        asks.accept(many);
+        for (int far : FAR) {
+            if (far < 0 || far >= many) {
+                asks.accept(far);
+            }
+        }
     }
 
     /** The fraction told latest, after a call that answered true. */
@@ -90,8 +156,7 @@ final class Check {
     MossSeats with(String text) {
         MossSeats x = new MossSeats();
         if (wood(x, text) == MossSeats.NONE) {
-            wrong++;
-            System.out.println(test + ": FAULT " + x.fault(0) + " at " + x.fault(1) + " in " + text);
+            tell("FAULT " + x.fault(0) + " at " + x.fault(1) + " in " + text);
         }
         return x;
     }
@@ -104,7 +169,8 @@ final class Check {
     }
 
     void finish() {
-        System.out.println(test + ": " + asked + " answers, " + wrong + " wrong");
+        String told = sentences == 0 ? "" : sentences + " sentences, ";
+        System.out.println(test + ": " + told + asked + " answers, " + wrong + " wrong");
         if (wrong != 0) {
             System.exit(1);
         }
