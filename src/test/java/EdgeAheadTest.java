@@ -158,6 +158,8 @@ public final class EdgeAheadTest {
         CHECK.sentence("Promises 32, 33: (8: by none)", () -> {
             MossSeats x = CHECK.with("matter a pace 0; sitter s mile 0 tall 10 for a; news a size 60; news a size 30;");
             byNone("90 is too little", x, 1);
+            CHECK.refused("least: 5 ahead of 8", x, 5, () -> x.least(3));
+            CHECK.refused("leastSet: 5 ahead of 8", x, 5, () -> x.leastSet(3));
             x.hear(0, 1);
             leasts("91 is enough", x, 1, 7);
             MossSeats none = CHECK.with("matter a pace 20 clear 99; sitter s mile 0 tall 99 for a; sitter t mile 0 tall 1 for a;");
@@ -824,6 +826,8 @@ public final class EdgeAheadTest {
             CHECK.refused("what CAME, what is SETTLED", x, 8, () -> x.moveOf(1, 0, 1));
             MossSeats none = CHECK.with("matter p pace 0; sitter s mile 0 tall 10 for p; sitter t mile 0 tall 90 for p;");
             CHECK.refused("there is none", none, 8, () -> none.moveOf(0, 1, 4));
+            CHECK.refused("2 ahead of 8", none, 2, () -> none.moveOf(0, 2, 1));
+            CHECK.refused("5 ahead of 8", none, 5, () -> none.moveOf(0, 1, 0));
         });
         CHECK.sentence("MOVE: by turns, the first first", () -> {
             MossSeats x = CHECK.with("matter p pace 0; sitter s mile 0 tall 90 for p; sitter t mile 0 tall 10 for p; news p size 50; news p size 50; news p size 100;");
@@ -880,6 +884,7 @@ public final class EdgeAheadTest {
             x.bring(0);
             CHECK.refusedNo("by rounding", x, 8, () -> x.share(0));
             CHECK.refusedNo("by rounding, the other one", x, 8, () -> x.share(1));
+            CHECK.refusedNo("2 ahead of 8", x, 2, () -> x.share(2));
         });
         CHECK.sentence("Promise 49: the part of all HEIGHTS that a SITTER has", () -> {
             MossSeats x = CHECK.with("matter a pace 0; sitter s mile 0 tall 99 for a;sitter t mile 0 tall 99 for a;sitter u mile 0 tall 99 for a;sitter v mile 0 tall 99 for a;"
